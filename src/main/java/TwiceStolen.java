@@ -247,7 +247,7 @@ public final class TwiceStolen {
     }
 
     public int fits(int i) {
-        return i < -1 ? NONE : hands.fittingRow(now.sights, i);
+        return hands.fittingRow(now.sights, i);
     }
 
     public int ask(int what) {

@@ -2,6 +2,7 @@
 public final class ImageTest {
     public static void main(String[] args) {
         images();
+        sights();
         notThePad();
         twoImages();
         told();
@@ -47,6 +48,27 @@ public final class ImageTest {
         change(x, 2);
         x.restore(1);
         Due.same("kept anew", Due.state(x), later);
+    }
+
+    private static void sights() {
+        TwiceStolen x = new TwiceStolen();
+        x.ahead(4, 3);
+        x.ahead(2, 0);
+        String before = Due.state(x);
+        x.image(0);
+        x.forget();
+        x.ahead(1, 2);
+        x.ahead(0, 4);
+        Due.due("other sights", x.fits(0), 1234);
+        x.restore(0);
+        Due.due("the first row of those kept", x.fits(0), 12043);
+        Due.same("sights as they were", Due.state(x), before);
+        x.ahead(0, 1);
+        x.image(1);
+        x.restore(0);
+        Due.same("sights told later are none of it", Due.state(x), before);
+        x.restore(1);
+        Due.due("sights of the other", x.told(3), 3);
     }
 
     private static void notThePad() {

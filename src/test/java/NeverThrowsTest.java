@@ -8,15 +8,24 @@ public final class NeverThrowsTest {
 
     public static void main(String[] args) {
         Random random = new Random(1);
-        long answers = 0;
         for (int run = 0; run < 2000; run++) {
             TwiceStolen x = new TwiceStolen();
             for (int i = 0; i < 400; i++) {
-                answers += call(x, random) < 0 ? 1 : 0;
+                if (random.nextInt(40) == 0) {
+                    compare(x, random);
+                } else {
+                    call(x, random);
+                }
             }
         }
-        Due.due("some were refused", answers > 0 ? 1 : 0, 1);
         Due.end();
+    }
+
+    private static void compare(TwiceStolen x, Random random) {
+        String before = x.told(0) + " " + Due.state(x);
+        if (call(x, random) < 0) {
+            Due.same("a refused call", x.told(0) + " " + Due.state(x), before);
+        }
     }
 
     private static int n(Random random) {

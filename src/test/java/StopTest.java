@@ -6,6 +6,7 @@ public final class StopTest {
 
     public static void main(String[] args) {
         ordinary();
+        soldByItself();
         againstPlans();
         refusals();
         Due.end();
@@ -34,6 +35,14 @@ public final class StopTest {
         stop(100000000, 9, 5, 1, 1, 0);
         stop(104, 3, 5, 1, 1, 0);
         stop(124, 3, 5, 1, 1, 0);
+    }
+
+    private static void soldByItself() {
+        TwiceStolen x = new TwiceStolen();
+        Due.due("sells first", x.sells(129, 3, 4), 2);
+        Due.due("sells another row", x.sells(921, 3, 4), 0);
+        Due.due("stop of another", x.stop(12, 2, 0, 0), 2);
+        Due.due("sells behind it", x.sells(119, 3, 0), 2);
     }
 
     // backwards: from taking to taking, going on only where that is better
