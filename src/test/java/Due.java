@@ -1,7 +1,16 @@
+import java.io.IOException;
+import java.nio.charset.StandardCharsets;
+import java.nio.file.Files;
+import java.nio.file.Path;
+
 /** Counts the answers that are not as due; what the tests of the project share. */
 final class Due {
+    private static final Path DOCUMENT = Path.of("../shared/DOC.md");
+
     private static int asked = 0;
     private static int wrong = 0;
+    private static String document = null;
+    private static String sentence = "";
 
     private Due() {
     }
@@ -11,8 +20,28 @@ final class Due {
         if (got != want) {
             wrong++;
             if (wrong <= 50) {
-                System.out.println(call + " answered " + got + ", due is " + want);
+                System.out.println(sentence + call + " answered " + got + ", due is " + want);
             }
+        }
+    }
+
+    /** What follows is about these words; that the document has them so is looked at, too. */
+    static void sentence(String words) {
+        if (document == null) {
+            document = readDocument();
+        }
+        sentence = "";
+        if (!document.isEmpty()) {
+            due("the document says: " + words, document.contains(words) ? 1 : 0, 1);
+        }
+        sentence = "\"" + words + "\": ";
+    }
+
+    private static String readDocument() {
+        try {
+            return Files.exists(DOCUMENT) ? Files.readString(DOCUMENT, StandardCharsets.UTF_8) : "";
+        } catch (IOException e) {
+            return "";
         }
     }
 

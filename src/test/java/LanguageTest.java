@@ -26,6 +26,7 @@ public final class LanguageTest {
         staticsAreFinal(code);
         indexesAreGuarded(code);
         methodsAreShort(code);
+        noCallMakesAnObject(code);
         Due.end();
     }
 
@@ -48,6 +49,16 @@ public final class LanguageTest {
             if (!index.group(1).equals("int") && !index.group(1).equals("long")) {
                 boolean plain = index.group(1).equals("row") || index.group(1).equals("to") || index.group(1).equals("ways");
                 Due.due("index " + index.group(), plain ? 1 : 0, 1);
+            }
+        }
+    }
+
+    // the room for all calls of a run is small, so all is made with the object
+    private static void noCallMakesAnObject(String code) {
+        for (String line : code.split("\n")) {
+            if (line.matches(".*\\bnew\\b.*")) {
+                boolean isField = line.matches("\\s+(private )?final \\S+ \\w+ = new .*;");
+                Due.due("made with the object: " + line.trim(), isField ? 1 : 0, 1);
             }
         }
     }
