@@ -180,6 +180,7 @@ public final class CareersBoundsTest {
             x.thing(6, 6, taken, 5, 1);
             Due.due("taken " + taken, x.careers(1, 64), due[taken]);
             Due.due("taken " + taken + ", and one more thing", x.careers(1, 65), due[taken] + 2);
+            Due.due("taken " + taken + ", and two more things", x.careers(1, 67), due[taken] + 4);
         }
         x.thing(6, 6, 1, 0, 9);
         x.one(6, 0, 0);
@@ -224,6 +225,10 @@ public final class CareersBoundsTest {
         for (int m = 0; m <= 20; m++) {
             // 0 to 1 to 2 to 3 to 4, and 4 to 2 again
             Due.due("a way into a round of three, " + m, x.ring(12342567, 0, m, 0), m < 2 ? m : 2 + (m - 2) % 3);
+        }
+        for (int m : new int[] {1, 2, 7, 8, 9, 999999999}) {
+            Due.due("to one who keeps them, " + m, x.ring(77777777, 0, m, 0), 7);
+            Due.due("he keeps them, " + m, x.ring(1234567, 5, m, 0), 5);
         }
         Due.due("m -1", x.ring(12345670, 0, -1, 0), OUTSIDE);
         Due.due("m 1000000000", x.ring(12345670, 0, 1000000000, 0), OUTSIDE);
@@ -356,6 +361,8 @@ public final class CareersBoundsTest {
         Due.due("refused", x.sells(10, 1, 0), OUTSIDE);
         Due.due("then now", x.sells(9, 1, 0), 0);
         Due.due("then now, of two", x.sells(91, 2, 0), 0);
+        Due.due("at the last of nine", x.sells(123456789, 9, 0), 8);
+        Due.due("digits of another row are no matter", x.sells(11, 2, 0), 0);
         Due.due("then at the last of two", x.sells(19, 2, 0), 1);
         Due.due("a mean of another row", x.stop(123456789, 9, 0, 0), 9);
         Due.due("then now", x.sells(91, 2, 0), 0);
